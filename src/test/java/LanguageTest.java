@@ -1,0 +1,79 @@
+import java.io.IOException;
+import java.lang.reflect.Method;
+import java.lang.reflect.Modifier;
+import java.nio.file.Files;
+import java.nio.file.Path;
+import java.util.Arrays;
+import java.util.Set;
+import java.util.TreeSet;
+import java.util.regex.Pattern;
+
+/** What of LANGUAGE.md a program can look at: the face, the words used, names and sizes. */
+public final class LanguageTest {
+    private static final String FACE = "ahead book books count fault feed goBack guess guide habit keep lay likely list"
+            + " make mark mend order put room search seed set shelf shelve stock take tidy width wrong";
+    private static final String[] RULED_OUT = {"throw", "try", "catch", "finally", "synchronized", "assert", "import",
+        "package", "instanceof", "protected", "native", "transient", "volatile", "->", "::", "@", "System", "Object"};
+    private static final Due due = new Due("LanguageTest");
+
+    public static void main(String[] args) throws IOException {
+        face();
+        constants();
+        for (Class<?> own : OutOfPlace.class.getDeclaredClasses()) {
+            classInside(own);
+        }
+        due.is("at most twelve classes", Math.min(12, 1 + OutOfPlace.class.getDeclaredClasses().length),
+                1 + OutOfPlace.class.getDeclaredClasses().length);
+        words();
+        due.end();
+    }
+
+    private static void face() {
+        Set<String> open = new TreeSet<>();
+        for (Method method : OutOfPlace.class.getDeclaredMethods()) {
+            if (!Modifier.isPrivate(method.getModifiers())) {
+                open.add(method.getName());
+            } else {
+                notOfTheFace(method);
+            }
+        }
+        due.textIs("the face", String.join(" ", open), FACE);
+        due.is("constructors", OutOfPlace.class.getDeclaredConstructors().length, 1);
+        due.is("final", Modifier.isFinal(OutOfPlace.class.getModifiers()) ? 1 : 0, 1);
+    }
+
+    private static void constants() {
+        due.is("NONE", OutOfPlace.NONE, -1);
+        due.is("UNKNOWN", OutOfPlace.UNKNOWN, -1001);
+        due.is("OUTSIDE", OutOfPlace.OUTSIDE, -1002);
+        due.is("NOT", OutOfPlace.NOT, -1003);
+        due.is("FULL", OutOfPlace.FULL, -1004);
+        long open = Arrays.stream(OutOfPlace.class.getDeclaredFields())
+                .filter(field -> !Modifier.isPrivate(field.getModifiers())).count();
+        due.is("open fields", open, 5);
+    }
+
+    private static void notOfTheFace(Method method) {
+        boolean same = Arrays.asList(FACE.split(" ")).contains(method.getName());
+        due.is("private method " + method.getName() + " bears a public name", same ? 1 : 0, 0);
+        due.is("parameters of " + method.getName(), method.getParameterCount() > 7 ? 1 : 0, 0);
+    }
+
+    private static void classInside(Class<?> own) {
+        due.is(own + " is static", Modifier.isStatic(own.getModifiers()) ? 1 : 0, 1);
+        due.is(own + " is private", Modifier.isPrivate(own.getModifiers()) ? 1 : 0, 1);
+        for (Method method : own.getDeclaredMethods()) {
+            notOfTheFace(method);
+        }
+    }
+
+    private static void words() throws IOException {
+        String source = Files.readString(Path.of("src/main/java/OutOfPlace.java"));
+        due.is("signs above 126", source.chars().filter(sign -> sign > 126).count(), 0);
+        String code = source.replaceAll("(?s)/\\*.*?\\*/", "").replaceAll("//[^\n]*", "");
+        for (String word : RULED_OUT) {
+            String sought = Character.isLetter(word.charAt(0)) ? "\\b" + word + "\\b" : Pattern.quote(word);
+            due.is("uses of " + word, Pattern.compile(sought).matcher(code).find() ? 1 : 0, 0);
+        }
+    }
+}

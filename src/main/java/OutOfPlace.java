@@ -938,7 +938,7 @@ public final class OutOfPlace {
         }
 
         int shelfOf(int b) {
-            return entry(shelfOfBook, b);
+            return b >= 0 && b < shelfOfBook.length ? shelfOfBook[b] : NONE;
         }
 
         boolean stands(int b) {

@@ -182,6 +182,11 @@ public final class BooksTest {
         due.is("its shelf", x.book(0, 3), 3);
         due.is("its place", x.book(0, 4), 1);
         due.is("first place", x.book(1, 4), 0);
+        OutOfPlace y = Due.told("a1;a2;a3;");
+        Due.fill(y, 2, 2);
+        Due.fill(y, 5, 1, 0);
+        due.is("place behind earlier shelves", y.book(0, 4), 1);
+        due.is("first place behind earlier shelves", y.book(1, 4), 0);
         due.is("what -1", x.book(0, -1), OUTSIDE);
         due.is("what 5", x.book(0, 5), OUTSIDE);
         due.is("book -1", x.book(-1, 9), UNKNOWN);

@@ -18,6 +18,7 @@ public final class TidyTest {
         outOfOrder("5 4 3 2 1 0", 31, 15, 5);
         outOfOrder("1 5 2 4 3", (1 << 5) + (1 << 3), 4, 5);
         acrossShelves();
+        onlyTheRightReadingCounts();
         tidyRefusals();
         mend();
         mendPushes();
@@ -51,6 +52,24 @@ public final class TidyTest {
         Due.fill(y, 2, 1);
         Due.fill(y, 4, 0);
         due.is("first wrong ends a shelf", y.tidy(1), 1);
+    }
+
+    /** In this order by every READING but the right one. */
+    private static void onlyTheRightReadingCounts() {
+        String[] rows = {"a1.9;a1.10;", "a1.b9;a1.b10;", "ab1;aa2;", "a10;a9;"};
+        for (String text : rows) {
+            OutOfPlace x = Due.told(text);
+            Due.fill(x, 0, 0, 1);
+            due.is("wrong of " + text, x.wrong(), 2);
+            due.is("pairs of " + text, x.tidy(0), 1);
+            due.is("first wrong of " + text, x.tidy(1), 0);
+            due.is("mend of " + text, x.mend(), 1);
+            due.shelfIs(x, 0, "1 0");
+            x.take(0);
+            x.set(0, 0, 0);
+            due.is("lay of " + text, x.lay(0), 0);
+            due.shelfIs(x, 0, "1 0");
+        }
     }
 
     private static void tidyRefusals() {

@@ -15,6 +15,7 @@ public final class SearchTest {
         likelyRefusals();
         searchOfTwoShelves();
         searchOfLikeOrders();
+        searchOfOrdersAlikeWhenCut();
         searchWhereNothingIs();
         searchRefusals();
         due.end();
@@ -131,6 +132,20 @@ public final class SearchTest {
         x.put(5, 0);
         x.habit(1, 2);
         due.is("the second is likelier", x.search(7, 0), 1);
+    }
+
+    /** Sums 12764697 (0 first) and 12764691 (1 first): COST is 12764 both ways. */
+    private static void searchOfOrdersAlikeWhenCut() {
+        OutOfPlace x = Due.told("a1.10;a1.2;a1.3;a1.4;a1.5;a1.6;a1.7;a1.8;a1.9;a2;a3;a4;a5;a6;a7;a8;");
+        Due.fill(x, 0, 1, 2, 3, 4, 5);
+        Due.fill(x, 1, 6, 7, 8, 9, 10, 11, 12, 13, 14, 15);
+        for (int reading = 0; reading < 5; reading++) {
+            x.habit(reading, reading == 0 ? 5 : reading == 1 ? 12 : 0);
+        }
+        due.is("likely on 0", x.likely(0, 0), 294117);
+        due.is("likely on 1", x.likely(0, 1), 705882);
+        due.is("cost", x.search(0, NONE), 12764);
+        due.is("the first of like ones", x.search(0, 0), 0);
     }
 
     private static void searchWhereNothingIs() {

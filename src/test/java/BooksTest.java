@@ -69,22 +69,16 @@ public final class BooksTest {
     }
 
     private static void textsWithoutFault() {
-        noFault("", 0);
-        noFault("     ", 0);
-        noFault("a1;", 1);
-        noFault("  a1  ;  b1;", 2);
-        noFault("a1;  ", 1);
-        noFault("zz9999.0000.z0000 y2999 w9;", 1);
-        noFault("a1 y1000;a1 y2999;", 2);
-        noFault("a1   y1990   w1   ;", 1);
-        noFault("a1 w3;a2.w3;a2.y1990;y1;w1;", 5);
-        noFault("a1.5;a1.50;a1.05;a1;a1.0;ab1.5;a1.5.b5;a1.5.b05;a1.b5;a1.b5 y1990;", 10);
-    }
-
-    private static void noFault(String text, int books) {
-        OutOfPlace x = new OutOfPlace();
-        due.is("books of " + text, Due.tell(x, text), books);
-        due.is("fault of " + text, x.fault(), NONE);
+        due.goodText("", 0);
+        due.goodText("     ", 0);
+        due.goodText("a1;", 1);
+        due.goodText("  a1  ;  b1;", 2);
+        due.goodText("a1;  ", 1);
+        due.goodText("zz9999.0000.z0000 y2999 w9;", 1);
+        due.goodText("a1 y1000;a1 y2999;", 2);
+        due.goodText("a1   y1990   w1   ;", 1);
+        due.goodText("a1 w3;a2.w3;a2.y1990;y1;w1;", 5);
+        due.goodText("a1.5;a1.50;a1.05;a1;a1.0;ab1.5;a1.5.b5;a1.5.b05;a1.b5;a1.b5 y1990;", 10);
     }
 
     private static void textsWithFault() {
@@ -215,53 +209,40 @@ public final class BooksTest {
     }
 
     private static void classes() {
-        isAhead("a2", "b1", "11111");
-        isAhead("a1", "ab1", "11111");
-        isAhead("ab1", "a1", "00010");
-        isAhead("ab1", "b1", "11111");
-        isAhead("aa2", "ab1", "11101");
-        isAhead("az1", "ab2", "00010");
+        due.aheadIs("a2", "b1", "11111");
+        due.aheadIs("a1", "ab1", "11111");
+        due.aheadIs("ab1", "a1", "00010");
+        due.aheadIs("ab1", "b1", "11111");
+        due.aheadIs("aa2", "ab1", "11101");
+        due.aheadIs("az1", "ab2", "00010");
     }
 
     private static void numbersAndDecimals() {
-        isAhead("a9", "a10", "11110");
-        isAhead("a10", "a1", "00000");
-        isAhead("a1", "a10", "11111");
-        isAhead("a1.9", "a1.10", "01000");
-        isAhead("a1", "a1.0", "11111");
-        isAhead("a1.0", "a1", "01000");
-        isAhead("a1.5", "a1.50", "11111");
-        isAhead("a1.50", "a1.5", "00000");
-        isAhead("a1.5", "a1.05", "01000");
-        isAhead("a1.5", "a1.b1", "00000");
-        isAhead("a1.0.a1", "a1.b1", "01000");
-        isAhead("a2", "a1.9", "00000");
+        due.aheadIs("a9", "a10", "11110");
+        due.aheadIs("a10", "a1", "00000");
+        due.aheadIs("a1", "a10", "11111");
+        due.aheadIs("a1.9", "a1.10", "01000");
+        due.aheadIs("a1", "a1.0", "11111");
+        due.aheadIs("a1.0", "a1", "01000");
+        due.aheadIs("a1.5", "a1.50", "11111");
+        due.aheadIs("a1.50", "a1.5", "00000");
+        due.aheadIs("a1.5", "a1.05", "01000");
+        due.aheadIs("a1.5", "a1.b1", "00000");
+        due.aheadIs("a1.0.a1", "a1.b1", "01000");
+        due.aheadIs("a2", "a1.9", "00000");
     }
 
     private static void cuttersAndYears() {
-        isAhead("a1.b9", "a1.b10", "00100");
-        isAhead("a1.a0", "a1", "00000");
-        isAhead("a1", "a1.a0", "11111");
-        isAhead("a1.b9999", "a1.c0", "11111");
-        isAhead("a1.b7", "a1.b07", "00100");
-        isAhead("a1.b5", "a1.b50", "11111");
-        isAhead("a1", "a1 y1000", "11111");
-        isAhead("a1 y1000", "a1", "00000");
-        isAhead("a1 y1999", "a1 y2000", "11111");
-        isAhead("a1.b1 y2000", "a1.b2 y1999", "11111");
-    }
-
-    /** Whether the first mark is ahead of the second, by each READING; of itself it never is. */
-    private static void isAhead(String first, String second, String byReading) {
-        OutOfPlace x = Due.told(first + ";" + second + ";");
-        for (int reading = 0; reading < 5; reading++) {
-            int want = byReading.charAt(reading) - '0';
-            due.is(first + " ahead of " + second + " by " + reading, x.ahead(0, 1, reading), want);
-            due.is(second + " ahead of " + first + " by " + reading, x.ahead(1, 0, reading), 1 - want);
-            due.is(first + " ahead of itself", x.ahead(0, 0, reading), 0);
-            due.is("first by " + reading, x.order(reading, 0), 1 - want);
-            due.is("second by " + reading, x.order(reading, 1), want);
-        }
+        due.aheadIs("a1.b9", "a1.b10", "00100");
+        due.aheadIs("a1.a0", "a1", "00000");
+        due.aheadIs("a1", "a1.a0", "11111");
+        due.aheadIs("a1.b9999", "a1.c0", "11111");
+        due.aheadIs("a1.b7", "a1.b07", "00100");
+        due.aheadIs("a1.b5", "a1.b50", "11111");
+        due.aheadIs("a1", "a1 y1000", "11111");
+        due.aheadIs("a1 y1000", "a1", "00000");
+        due.aheadIs("a1 y1999", "a1 y2000", "11111");
+        due.aheadIs("a1.b1 y2000", "a1.b2 y1999", "11111");
     }
 
     private static void aheadRefusals() {

@@ -27,11 +27,11 @@ public final class ExtremesTest {
             Due.tell(x, (char) ('a' + draw(4)) + "" + (k + 1) + (draw(2) == 0 ? " w" + (1 + draw(9)) : "") + ";");
         }
         for (int call = 0; call < 400; call++) {
-            String before = state(x);
+            String before = Due.state(x);
             int which = draw(30);
             int answer = call(x, which);
             if (answer <= OutOfPlace.UNKNOWN) {
-                due.textIs("state after refused call " + which, state(x), before);
+                due.textIs("state after refused call " + which, Due.state(x), before);
             }
         }
     }
@@ -78,27 +78,5 @@ public final class ExtremesTest {
             case 28: return x.keep(a);
             default: return x.goBack(a);
         }
-    }
-
-    private static String state(OutOfPlace x) {
-        StringBuilder all = new StringBuilder();
-        for (int what = 0; what < 4; what++) {
-            all.append(x.count(what)).append(' ');
-        }
-        all.append(x.fault());
-        for (int s = 0; s < 8; s++) {
-            all.append(" / ").append(Due.shelf(x, s)).append(" room ").append(x.room(s));
-        }
-        int list = x.list(0);
-        x.list(list);
-        int seed = x.seed(0);
-        x.seed(seed);
-        all.append(" list ").append(list).append(" seed ").append(seed);
-        for (int reading = 0; reading < 5; reading++) {
-            int weight = x.habit(reading, 0);
-            x.habit(reading, weight);
-            all.append(' ').append(weight);
-        }
-        return all.toString();
     }
 }

@@ -13,6 +13,11 @@ final class Due {
         sentence = " (" + words + ")";
     }
 
+    /** Such words, and which edge of theirs is looked at. */
+    void sentence(String words, String edge) {
+        sentence = " (" + words + " - " + edge + ")";
+    }
+
     void is(String call, long got, long want) {
         if (got != want) {
             wrong++;

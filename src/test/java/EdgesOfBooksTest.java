@@ -67,7 +67,7 @@ public final class EdgesOfBooksTest {
     }
 
     private static void numberAsAWhole() {
-        due.sentence("number (as a whole number)");
+        due.sentence("number (as a whole number;");
         due.aheadIs("a1", "a2", "11111");
         due.aheadIs("a9998", "a9999", "11111");
         due.aheadIs("a9", "a10", "11110");
@@ -180,7 +180,7 @@ public final class EdgesOfBooksTest {
     }
 
     private static void ofABook() {
-        due.sentence("Of a BOOK: what = 0 number, 1 year (NONE), 2 width, 3 SHELF (NONE), 4 its place there");
+        due.sentence("Of a BOOK: what = 0 number, 1 year (NONE), 2 width, 3 SHELF (NONE: it does not stand), 4 its place there from the left (NONE)");
         OutOfPlace x = Due.told("zz9999.9999.z9999 y2999 w9;a1 y1000 w1;b2;");
         Due.fill(x, 7, 1, 0);
         Due.fill(x, 0, 2);
@@ -217,7 +217,7 @@ public final class EdgesOfBooksTest {
     }
 
     private static void bookRefused() {
-        due.sentence("Of a BOOK: UNKNOWN, OUTSIDE");
+        due.sentence("4 its place there from the left (NONE). UNKNOWN, OUTSIDE.");
         OutOfPlace x = Due.told("a1;a2;");
         for (int b : new int[] {-1, 2, 23, 24, LEAST, GREATEST}) {
             due.is("book " + b, x.book(b, 0), UNKNOWN);
@@ -244,7 +244,7 @@ public final class EdgesOfBooksTest {
     }
 
     private static void markRefused() {
-        due.sentence("Byte i of a MARK: UNKNOWN");
+        due.sentence("Byte i of a MARK; i = NONE: how many; NONE: not so many. UNKNOWN.");
         OutOfPlace x = Due.told("a1;");
         for (int b : new int[] {-1, 1, 24, LEAST, GREATEST}) {
             due.is("mark " + b, x.mark(b, 0), UNKNOWN);
@@ -262,7 +262,7 @@ public final class EdgesOfBooksTest {
     }
 
     private static void aheadRefused() {
-        due.sentence("Whether BOOK a is AHEAD of b by a READING: UNKNOWN");
+        due.sentence("Whether BOOK a is AHEAD of b by a READING: 1, 0 (a BOOK of itself: 0). UNKNOWN.");
         OutOfPlace x = Due.told("a1;b1;");
         for (int b : new int[] {-1, 2, 24, LEAST, GREATEST}) {
             due.is("a " + b, x.ahead(b, 1, 0), UNKNOWN);
@@ -294,7 +294,7 @@ public final class EdgesOfBooksTest {
     }
 
     private static void orderOfNone() {
-        due.sentence("No BOOKS; NONE: not so many");
+        due.sentence("NONE: not so many (i below 0, too)", "no BOOKS");
         for (int reading = 0; reading < 5; reading++) {
             due.is("place 0", new OutOfPlace().order(reading, 0), NONE);
             due.is("place -1", new OutOfPlace().order(reading, -1), NONE);
@@ -302,7 +302,7 @@ public final class EdgesOfBooksTest {
     }
 
     private static void orderRefused() {
-        due.sentence("Place i of all BOOKS in order by a READING: UNKNOWN");
+        due.sentence("NONE: not so many (i below 0, too). UNKNOWN.");
         OutOfPlace x = Due.told("a1;");
         for (int reading : new int[] {-1, 5, LEAST, GREATEST}) {
             due.is("reading " + reading, x.order(reading, 0), UNKNOWN);

@@ -61,7 +61,7 @@ public final class EdgesOfDrawsTest {
     }
 
     private static void boundsOfTheSeed() {
-        due.sentence("THE SEED becomes v (0 .. 2147483647): what it was. OUTSIDE (0 at first)");
+        due.sentence("THE SEED becomes v (0 .. 2147483647): what it was. OUTSIDE.");
         OutOfPlace x = new OutOfPlace();
         due.is("greatest", x.seed(2147483647), 0);
         due.is("least", x.seed(0), 2147483647);
@@ -129,7 +129,7 @@ public final class EdgesOfDrawsTest {
     }
 
     private static void oneWeightAlone() {
-        due.sentence("a DRAW of all weights together (of one alone)");
+        due.sentence("a DRAW of all weights together", "one alone is not 0");
         for (int reading = 0; reading < 5; reading++) {
             for (int weight : new int[] {1, 99}) {
                 OutOfPlace x = fiveWays();
@@ -228,7 +228,7 @@ public final class EdgesOfDrawsTest {
     }
 
     private static void imagesThereAre() {
-        due.sentence("IMAGES 0, 1: UNKNOWN");
+        due.sentence("IMAGES 0, 1 keep", "UNKNOWN beside them");
         OutOfPlace x = new OutOfPlace();
         for (int i : new int[] {-1, 2, LEAST, GREATEST}) {
             due.is("keep " + i, x.keep(i), UNKNOWN);
@@ -255,7 +255,7 @@ public final class EdgesOfDrawsTest {
     }
 
     private static void keptEmpty() {
-        due.sentence("IMAGE i becomes what is so (none stands)");
+        due.sentence("IMAGE i becomes what is so", "none stands");
         OutOfPlace x = new OutOfPlace();
         due.is("of no books", x.keep(0), 1);
         Due.tell(x, Due.row(3, 2));
@@ -289,7 +289,7 @@ public final class EdgesOfDrawsTest {
     }
 
     private static void whatIsNotKept() {
-        due.sentence("IMAGES keep THE ROW, THE LIST, THE SEED (no more)");
+        due.sentence("IMAGES 0, 1 keep THE ROW, THE LIST, THE SEED", "no more");
         OutOfPlace x = Due.told("a1;a2;");
         Due.tell(x, "a1;");
         x.keep(0);
@@ -326,7 +326,7 @@ public final class EdgesOfDrawsTest {
     }
 
     private static void keptAgain() {
-        due.sentence("IMAGE i becomes what is so: what it was is gone");
+        due.sentence("IMAGE i becomes what is so", "what it was is gone");
         OutOfPlace x = Due.told(Due.row(2, 2));
         Due.fill(x, 3, 0, 1);
         x.keep(0);
@@ -338,7 +338,7 @@ public final class EdgesOfDrawsTest {
     }
 
     private static void goBackAgain() {
-        due.sentence("What is so becomes IMAGE i: it stays kept as it was");
+        due.sentence("What is so becomes IMAGE i", "which stays as it was kept");
         OutOfPlace x = Due.told(Due.row(3, 2));
         Due.fill(x, 3, 2, 0);
         x.keep(0);
@@ -355,7 +355,7 @@ public final class EdgesOfDrawsTest {
     }
 
     private static void booksToldSince() {
-        due.sentence("What is so becomes IMAGE i: THE ROW");
+        due.sentence("What is so becomes IMAGE i", "BOOKS told since do not stand");
         OutOfPlace x = Due.told("a1;");
         Due.fill(x, 0, 0);
         x.keep(0);

@@ -55,7 +55,7 @@ public final class EdgesOfRoomTest {
     }
 
     private static void layNone() {
-        due.sentence("all BOOKS that stand (none)");
+        due.sentence("all BOOKS that stand", "none stands");
         due.is("no books", new OutOfPlace().lay(0), 0);
         OutOfPlace x = Due.told(Due.row(3, 2));
         due.is("none stands", x.lay(30), 0);
@@ -89,7 +89,7 @@ public final class EdgesOfRoomTest {
     }
 
     private static void oneBookAtLeast() {
-        due.sentence("(one BOOK at least)");
+        due.sentence("(one BOOK at least", "less than s is left then");
         OutOfPlace x = Due.told("a1 w9;a2 w1;a3 w9;");
         Due.widths(x, 9, 30, 9);
         Due.fill(x, 1, 0, 1, 2);
@@ -109,7 +109,7 @@ public final class EdgesOfRoomTest {
     }
 
     private static void noneBack() {
-        due.sentence("in the right order, from SHELF 0 on, each SHELF till the next one ..");
+        due.sentence("in the right order, from SHELF 0 on, each SHELF till the next one would leave less than s", "none goes back to one that was passed");
         OutOfPlace x = Due.told("a1 w3;a2 w2;a3 w1;");
         Due.widths(x, 4, 30);
         Due.fill(x, 1, 0, 1, 2);
@@ -152,7 +152,7 @@ public final class EdgesOfRoomTest {
     }
 
     private static void layRefused() {
-        due.sentence("LAID ANEW: OUTSIDE, NOT");
+        due.sentence("LAID ANEW: CARRIED. OUTSIDE, NOT.", "OUTSIDE");
         OutOfPlace x = Due.told(Due.row(2, 2));
         Due.fill(x, 0, 1, 0);
         for (int s : new int[] {-1, 31, LEAST, GREATEST}) {
@@ -179,7 +179,7 @@ public final class EdgesOfRoomTest {
     }
 
     private static void roomIsThere() {
-        due.sentence("the fewest that must be carried (none)");
+        due.sentence("the fewest that must be carried", "there is room: none");
         OutOfPlace x = Due.told(Due.row(3, 5));
         Due.fill(x, 4, 0, 1, 2);
         due.is("just room", x.make(4, 15, true), 0);
@@ -261,7 +261,7 @@ public final class EdgesOfRoomTest {
     }
 
     private static void countedOnce() {
-        due.sentence("How many BOOKS must be CARRIED: how many BOOKS change their SHELF");
+        due.sentence("How many BOOKS must be CARRIED", "one that passes a SHELF is one");
         OutOfPlace x = Due.told("a1 w9;a2 w9;");
         Due.widths(x, 9, 8, 8, 9, 9);
         Due.fill(x, 0, 0);
@@ -303,7 +303,7 @@ public final class EdgesOfRoomTest {
     }
 
     private static void firstAndLastShelf() {
-        due.sentence("NOT: neither goes (none is earlier than SHELF 0, none later than 7)");
+        due.sentence("NOT: neither goes", "none is earlier than SHELF 0, none later than 7");
         OutOfPlace x = Due.told(Due.row(2, 2));
         Due.fill(x, 0, 0);
         Due.fill(x, 7, 1);
@@ -325,7 +325,7 @@ public final class EdgesOfRoomTest {
     }
 
     private static void makeRefused() {
-        due.sentence("MAKE ROOM: UNKNOWN, OUTSIDE, NOT");
+        due.sentence("(does = false: it stays as it is). UNKNOWN, OUTSIDE, NOT.");
         OutOfPlace x = Due.told("a1;");
         Due.widths(x, 2);
         Due.fill(x, 0, 0);
@@ -339,7 +339,7 @@ public final class EdgesOfRoomTest {
     }
 
     private static void guideOfAFirstShelf() {
-        due.sentence("GUIDE of a SHELF: the shortest beginning of its first BOOK's MARK (none is earlier)");
+        due.sentence("the shortest beginning of its first BOOK's MARK", "no BOOK is earlier");
         OutOfPlace x = Due.told("ab12.34.c56 y1990;q7;");
         Due.fill(x, 0, 1);
         due.textIs("of shelf 0", Due.guide(x, 0), "q");
@@ -350,7 +350,7 @@ public final class EdgesOfRoomTest {
     }
 
     private static void shortestBeginning() {
-        due.sentence("the shortest beginning .. that no MARK of a BOOK on an earlier SHELF begins with");
+        due.sentence("that no MARK of a BOOK on an earlier SHELF begins with");
         OutOfPlace x = Due.told("ab12;ab13;ab9;b1;ab1;");
         Due.fill(x, 0, 0);
         Due.fill(x, 1, 3);
@@ -360,12 +360,16 @@ public final class EdgesOfRoomTest {
         due.textIs("a byte before the last", Due.guide(x, 3), "ab9");
         due.is("one byte", x.guide(1, NONE), 1);
         due.is("it", x.guide(1, 0), 'b');
-        x.take(2);
-        x.take(1);
-        due.textIs("of an earlier one, not only the first there", Due.guide(x, 1), "b");
-        x.set(2, 1, 1);
-        Due.fill(x, 2, 1);
-        due.textIs("all on earlier shelves are looked at", Due.guide(x, 2), "ab13");
+        OutOfPlace y = Due.told("b1;c1;ab12;ab13;d1;");
+        Due.fill(y, 1, 0, 1, 2);
+        Due.fill(y, 2, 4);
+        Due.fill(y, 3, 3);
+        due.textIs("the last one of an earlier shelf", Due.guide(y, 3), "ab13");
+        y.take(2);
+        y.set(2, 1, 1);
+        due.textIs("one between", Due.guide(y, 3), "ab13");
+        y.take(2);
+        due.textIs("other first letters", Due.guide(y, 3), "a");
     }
 
     private static void partsOfAGuide() {
@@ -402,7 +406,7 @@ public final class EdgesOfRoomTest {
     }
 
     private static void earlierShelvesAlone() {
-        due.sentence("no MARK of a BOOK on an earlier SHELF");
+        due.sentence("no MARK of a BOOK on an earlier SHELF", "its own and later ones do not count");
         OutOfPlace x = Due.told("a1;a12;a13;a14;");
         Due.fill(x, 4, 0, 1);
         Due.fill(x, 5, 2);

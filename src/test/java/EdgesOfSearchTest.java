@@ -60,7 +60,7 @@ public final class EdgesOfSearchTest {
     }
 
     private static void listOfAll24() {
-        due.sentence("bits of BOOKS there are (24 at most)");
+        due.sentence("(bits of BOOKS there are)", "24");
         OutOfPlace x = Due.told(Due.row(24, 1));
         due.is("all", x.list(ALL_24), 0);
         due.is("one more", x.list(ALL_24 + 1), OUTSIDE);
@@ -69,7 +69,7 @@ public final class EdgesOfSearchTest {
     }
 
     private static void listOfNoBooks() {
-        due.sentence("bits of BOOKS there are (none)");
+        due.sentence("(bits of BOOKS there are)", "none");
         OutOfPlace x = new OutOfPlace();
         due.is("empty", x.list(0), 0);
         due.is("book 0", x.list(1), OUTSIDE);
@@ -103,7 +103,7 @@ public final class EdgesOfSearchTest {
     }
 
     private static void stockRefused() {
-        due.sentence("STOCK: what = 0, 1. OUTSIDE");
+        due.sentence("1 those that stand and are not of it. OUTSIDE.");
         OutOfPlace x = Due.told("a1;");
         for (int what : new int[] {-1, 2, LEAST, GREATEST}) {
             due.is("stock " + what, x.stock(what), OUTSIDE);
@@ -111,7 +111,7 @@ public final class EdgesOfSearchTest {
     }
 
     private static void weightsAtFirst() {
-        due.sentence("weights of READINGS (60 10 10 10 10 at first)");
+        due.sentence("60 10 10 10 10 at first");
         int[] first = {60, 10, 10, 10, 10};
         OutOfPlace x = new OutOfPlace();
         for (int reading = 0; reading < 5; reading++) {
@@ -123,7 +123,7 @@ public final class EdgesOfSearchTest {
     }
 
     private static void boundsOfAWeight() {
-        due.sentence("weights of READINGS (0 .. 99 each)");
+        due.sentence("weights of READINGS (0 .. 99 each;");
         OutOfPlace x = new OutOfPlace();
         for (int reading = 0; reading < 5; reading++) {
             x.habit(reading, 0);
@@ -136,7 +136,7 @@ public final class EdgesOfSearchTest {
     }
 
     private static void habitRefused() {
-        due.sentence("The weight of a READING: UNKNOWN, OUTSIDE");
+        due.sentence("The weight of a READING becomes v: what it was. UNKNOWN, OUTSIDE.");
         OutOfPlace x = new OutOfPlace();
         for (int reading : new int[] {-1, 5, LEAST, GREATEST}) {
             due.is("reading " + reading, x.habit(reading, 1), UNKNOWN);
@@ -150,7 +150,7 @@ public final class EdgesOfSearchTest {
     }
 
     private static void likelyIfNoneStand() {
-        due.sentence("on SHELF 0, if none stand: LIKELY of a MILLION");
+        due.sentence("A BOOK that does not stand is LIKELY on a SHELF: of a MILLION", "none stands");
         OutOfPlace x = fiveWays();
         for (int s = 0; s < 8; s++) {
             due.is("likely on " + s, x.likely(0, s), s == 0 ? MILLION : 0);
@@ -158,7 +158,7 @@ public final class EdgesOfSearchTest {
     }
 
     private static void weightsTogether() {
-        due.sentence("weights of READINGS by which it would be PUT there, times MILLION / all weights");
+        due.sentence("weights of READINGS by which it would be PUT there");
         OutOfPlace x = fiveWays();
         for (int b = 1; b < 6; b++) {
             x.set(b, b + 1, 0);
@@ -245,7 +245,7 @@ public final class EdgesOfSearchTest {
     }
 
     private static void beginsAtShelf0() {
-        due.sentence("one begins at SHELF 0: a step for each SHELF further");
+        due.sentence("one begins at SHELF 0, goes to SHELVES in some order: a step for each SHELF further");
         for (int s = 0; s < 8; s++) {
             OutOfPlace x = Due.told(Due.row(2, 2));
             x.set(0, s, 0);
@@ -294,6 +294,11 @@ public final class EdgesOfSearchTest {
         due.is("333333 and 666666 * 3, not 333 and 1999", x.search(0, NONE), 2333);
         Due.habits(x, 1, 0, 0, 0, 2);
         due.is("666666 and 333333 * 3, not 666 and 999", x.search(0, NONE), 1666);
+        OutOfPlace y = Due.told("a1.10;a1.2;a1.3;a1.4;a1.5;a1.6;a1.7;a1.8;");
+        Due.fill(y, 0, 1, 2, 3);
+        Due.fill(y, 1, 4, 5, 6, 7);
+        Due.habits(y, 40, 93, 0, 0, 0);
+        due.is("699248 * 5 and 300751 * 9 are 6202999", y.search(0, NONE), 6202);
     }
 
     private static void likelyAbove0() {
@@ -327,7 +332,7 @@ public final class EdgesOfSearchTest {
 
     /** Sums 12764697 (0 first) and 12764691 (1 first): COST is 12764 both ways. */
     private static void alikeWhenCut() {
-        due.sentence("the order of the least COST (cut at the end), of like ones the first");
+        due.sentence("the order of the least COST, of like ones the first", "alike when cut");
         OutOfPlace x = Due.told("a1.10;a1.2;a1.3;a1.4;a1.5;a1.6;a1.7;a1.8;a1.9;a2;a3;a4;a5;a6;a7;a8;");
         Due.fill(x, 0, 1, 2, 3, 4, 5);
         Due.fill(x, 1, 6, 7, 8, 9, 10, 11, 12, 13, 14, 15);
@@ -338,7 +343,7 @@ public final class EdgesOfSearchTest {
     }
 
     private static void oneShelf() {
-        due.sentence("goes to SHELVES in some order (to one)");
+        due.sentence("goes to SHELVES in some order", "to one");
         OutOfPlace x = Due.told(Due.row(2, 2));
         Due.fill(x, 6, 0);
         due.is("the one", x.search(1, 0), 6);
@@ -347,7 +352,7 @@ public final class EdgesOfSearchTest {
 
     /** Steps 1, 3, 7, 10: the likely one far off ahead of one that is passed. */
     private static void fourShelves() {
-        due.sentence("the order of the least COST (of four SHELVES)");
+        due.sentence("the order of the least COST", "of four SHELVES");
         OutOfPlace x = fiveWays();
         x.set(1, 0, 0);
         x.set(2, 1, 0);
@@ -372,7 +377,7 @@ public final class EdgesOfSearchTest {
     }
 
     private static void fiveShelves() {
-        due.sentence("the order of the least COST (of five SHELVES, as there are five READINGS)");
+        due.sentence("the order of the least COST", "of five SHELVES, as there are five READINGS");
         OutOfPlace x = fiveWays();
         for (int b = 1; b < 6; b++) {
             x.set(b, b - 1, 0);
@@ -390,7 +395,7 @@ public final class EdgesOfSearchTest {
     }
 
     private static void searchAllWeights0() {
-        due.sentence("over those SHELVES that have LIKELY above 0 (none)");
+        due.sentence("over those SHELVES that have LIKELY above 0", "none");
         OutOfPlace x = fiveWays();
         Due.fill(x, 2, 1, 5);
         Due.habits(x, 0, 0, 0, 0, 0);
@@ -410,7 +415,7 @@ public final class EdgesOfSearchTest {
     }
 
     private static void searchRefused() {
-        due.sentence("THE SEARCH: UNKNOWN, NOT: the BOOK stands");
+        due.sentence("NONE: not so many. UNKNOWN, NOT: the BOOK stands.");
         OutOfPlace x = Due.told(Due.row(2, 2));
         Due.fill(x, 0, 0);
         for (int b : new int[] {-1, 2, 24, LEAST, GREATEST}) {

@@ -57,7 +57,7 @@ public final class EdgesOfShelvesTest {
     }
 
     private static void boundsOfAWidth() {
-        due.sentence("WIDTH (1 .. 60): what it was. OUTSIDE");
+        due.sentence("WIDTH (1 .. 60;", "OUTSIDE beside them");
         OutOfPlace x = new OutOfPlace();
         due.is("least", x.width(0, 1), 30);
         due.is("greatest", x.width(0, 60), 1);
@@ -128,7 +128,7 @@ public final class EdgesOfShelvesTest {
     }
 
     private static void onThatOnesShelf() {
-        due.sentence("PUT ... on that one's SHELF");
+        due.sentence("on that one's SHELF");
         OutOfPlace x = Due.told(Due.row(3, 2));
         Due.fill(x, 2, 0);
         Due.fill(x, 6, 2);
@@ -247,7 +247,7 @@ public final class EdgesOfShelvesTest {
     }
 
     private static void widerThanItsShelf() {
-        due.sentence("PUSHED: its last one, as often as it must be (the one that was PUT, too)");
+        due.sentence("as often as it must be", "the one that was PUT goes, too");
         OutOfPlace x = Due.told("a1 w5;a2;a3;");
         Due.widths(x, 4, 6, 2, 2);
         Due.fill(x, 0, 1, 2);
@@ -279,7 +279,7 @@ public final class EdgesOfShelvesTest {
     }
 
     private static void shelfRefused() {
-        due.sentence("BOOK i of a SHELF, room that is left on a SHELF: UNKNOWN");
+        due.sentence("Room that is left on a SHELF. UNKNOWN.", "and BOOK i of a SHELF");
         OutOfPlace x = Due.told("a1;");
         for (int s : NO_SHELVES) {
             due.is("shelf " + s, x.shelf(s, 0), UNKNOWN);
@@ -317,6 +317,9 @@ public final class EdgesOfShelvesTest {
         due.shelvesAre(x, "", "", "", "0 1");
         due.is("the first of two", x.set(2, 3, 0), 1);
         due.shelvesAre(x, "", "", "", "2 0 1");
+        x.take(0);
+        due.is("between two", x.set(0, 3, 1), 1);
+        due.shelvesAre(x, "", "", "", "2 0 1");
         OutOfPlace y = Due.told(Due.row(3, 2));
         Due.fill(y, 0, 0);
         Due.fill(y, 7, 1);
@@ -325,7 +328,7 @@ public final class EdgesOfShelvesTest {
     }
 
     private static void nothingIsPushed() {
-        due.sentence("nothing is pushed: NOT: there is no room");
+        due.sentence("nothing is pushed", "NOT: there is no room");
         OutOfPlace x = Due.told("a1 w3;a2 w3;a3 w3;a4 w2;");
         x.width(0, 8);
         Due.fill(x, 0, 0, 1);
@@ -348,7 +351,7 @@ public final class EdgesOfShelvesTest {
     }
 
     private static void setRefused() {
-        due.sentence("A BOOK is put at place i of a SHELF: UNKNOWN, OUTSIDE, NOT");
+        due.sentence("UNKNOWN, OUTSIDE, NOT: it stands already, there is no room.");
         OutOfPlace x = Due.told(Due.row(3, 2));
         x.set(0, 0, 0);
         for (int b : NO_BOOKS) {
@@ -364,7 +367,7 @@ public final class EdgesOfShelvesTest {
     }
 
     private static void putRefused() {
-        due.sentence("A BOOK that does not stand is PUT by a READING: UNKNOWN, NOT: it stands, it cannot be");
+        due.sentence("UNKNOWN, NOT: it stands, it cannot be.");
         OutOfPlace x = Due.told(Due.row(3, 2));
         x.set(0, 0, 0);
         for (int b : NO_BOOKS) {
@@ -398,7 +401,7 @@ public final class EdgesOfShelvesTest {
     }
 
     private static void takeRefused() {
-        due.sentence("A BOOK is taken away: UNKNOWN, NOT: it does not stand");
+        due.sentence("A BOOK is taken away: the SHELF on which it was. UNKNOWN, NOT: it does not stand.");
         OutOfPlace x = Due.told(Due.row(3, 2));
         x.set(0, 0, 0);
         for (int b : NO_BOOKS) {

@@ -10,11 +10,13 @@ public final class EdgesOfTextsTest {
         callsOfOneObject();
         noBooksAtFirst();
         bytesOfALong();
+        behindTheText();
         bytesOutside();
         fullText();
         atMost24Books();
         atMost600Bytes();
         numbersOfBooks();
+        partsOfAMark();
         lettersOfAClass();
         lettersAreAToZ();
         figuresOfANumber();
@@ -41,6 +43,8 @@ public final class EdgesOfTextsTest {
         leftoversOfAFault();
         emptyText();
         textIsEmptyThen();
+        howManyInAll();
+        tenLessItsNumber();
         latestFault();
         due.end();
     }
@@ -93,13 +97,23 @@ public final class EdgesOfTextsTest {
         due.is("eight of a long below 0", z.feed(8, Long.MIN_VALUE), 8);
         due.is("the first is 128", z.books(), -11);
         due.is("at it", z.fault(), 0);
-        due.is("behind what there is", z.feed(2, 0x6232L), 2);
-        due.is("behind what there is", z.feed(1, ';'), 3);
-        due.is("both come together", z.books(), 3);
+    }
+
+    private static void behindTheText() {
+        due.sentence("come behind THE TEXT: how many it has");
+        OutOfPlace x = new OutOfPlace();
+        due.is("to none", x.feed(1, 'a'), 1);
+        due.is("to one", x.feed(2, 0x3132L), 3);
+        due.is("to three", x.feed(8, 0x2E35203B20623120L), 11);
+        due.is("bytes", x.count(2), 11);
+        due.is("to eleven", x.feed(1, ';'), 12);
+        due.is("all together", x.books(), 2);
+        due.textIs("the first", Due.mark(x, 0), "a12.5");
+        due.textIs("the second", Due.mark(x, 1), "b1");
     }
 
     private static void bytesOutside() {
-        due.sentence("n bytes (1 .. 8): OUTSIDE");
+        due.sentence("n bytes (1 .. 8)", "OUTSIDE beside them");
         OutOfPlace x = new OutOfPlace();
         for (int n : new int[] {0, 9, -1, 16, Integer.MIN_VALUE, Integer.MAX_VALUE}) {
             due.is("feed " + n, x.feed(n, -1L), OUTSIDE);
@@ -162,6 +176,24 @@ public final class EdgesOfTextsTest {
         for (int b = 0; b < 3; b++) {
             due.is("book " + b, x.book(b, 0), numbers[b]);
         }
+    }
+
+    private static void partsOfAMark() {
+        due.sentence("MARK = class number ['.' decimals] ['.' cutter] [year]");
+        String[] marks = {"ab12", "ab12.34", "ab12.c56", "ab12.34.c56",
+            "ab12 y1990", "ab12.34 y1990", "ab12.c56 y1990", "ab12.34.c56 y1990"};
+        for (String mark : marks) {
+            due.goodText(mark + ";", 1);
+            due.textIs("mark", Due.mark(Due.told(mark + " w1;"), 0), mark);
+            due.is("year of " + mark, Due.told(mark + ";").book(0, 1), mark.endsWith("y1990") ? 1990 : NONE);
+        }
+        due.goodText(String.join(";", marks) + ";", 8);
+        due.faultyText("12ab;", 1, 0);
+        due.faultyText("ab12.c56.34;", 1, 8);
+        due.faultyText("ab12 y1990.34;", 1, 10);
+        due.faultyText("ab12 y1990 .c56;", 1, 11);
+        due.faultyText("y1990 ab12;", 1, 6);
+        due.goodText("y1990;w3;", 2);
     }
 
     private static void lettersOfAClass() {
@@ -270,7 +302,7 @@ public final class EdgesOfTextsTest {
     }
 
     private static void signsOfFigures() {
-        due.sentence("figures (47 and 58 stand beside them)");
+        due.sentence("year = 'y' and four figures", "every byte in a figure's place");
         for (int sign = 0; sign < 256; sign++) {
             boolean isFigure = "0123456789".indexOf(sign) >= 0;
             String begin = "a1 y199" + (char) sign;
@@ -343,7 +375,7 @@ public final class EdgesOfTextsTest {
     }
 
     private static void atTheFirstByte() {
-        due.sentence("FAULTS, at the first byte that has one, of these the least");
+        due.sentence("FAULTS, at the first byte that has one");
         due.faultyText("a1;a1;abc1;", 5, 5);
         due.faultyText("abc1;a1;a1;", 2, 2);
         due.faultyText("a1 y3000;a1;a1;!", 3, 4);
@@ -415,7 +447,7 @@ public final class EdgesOfTextsTest {
     }
 
     private static void markThereAlready() {
-        due.sentence("5 a MARK that is there already (at the ';')");
+        due.sentence("5 a MARK that is there already", "of an earlier text");
         String[] marks = {"a1", "ab1", "a1.5", "a1.b5", "a1.5.b6", "a1 y1990", "ab9999.9999.z9999 y2999"};
         for (String mark : marks) {
             OutOfPlace x = Due.told("q1;" + mark + ";q2;");
@@ -429,7 +461,7 @@ public final class EdgesOfTextsTest {
     }
 
     private static void marksThatAreOther() {
-        due.sentence("a MARK that is there already: it is another one, if a part is");
+        due.sentence("5 a MARK that is there already", "another one, if a part is other");
         due.goodText("a1;b1;ab1;ba1;aa1;", 5);
         due.goodText("a1;a10;a100;a1000;", 4);
         due.goodText("a1;a1.0;a1.00;a1.000;a1.0000;", 5);
@@ -459,7 +491,7 @@ public final class EdgesOfTextsTest {
     }
 
     private static void leftoversOfAFault() {
-        due.sentence("with a FAULT none: nor any part of one");
+        due.sentence("with a FAULT none", "nor any part of one");
         String[] faulty = {"zz77.88.y99 y1999 w9 !", "zz77.88.y99 y1999", "zz7777.8888.y99999", "zz7;zz77.88.y99;zz7;"};
         for (String text : faulty) {
             OutOfPlace x = Due.told("a1;");
@@ -498,6 +530,25 @@ public final class EdgesOfTextsTest {
         due.is("a fault", x.books(), -11);
         due.is("bytes", x.count(2), 0);
         due.is("nothing is left of it", Due.tell(x, "a2;"), 2);
+    }
+
+    private static void howManyInAll() {
+        due.sentence("come to those that there are: how many there are in all then");
+        OutOfPlace x = new OutOfPlace();
+        due.is("none", x.books(), 0);
+        due.is("two", Due.tell(x, "a1;a2;"), 2);
+        due.is("none more", x.books(), 2);
+        due.is("three more", Due.tell(x, "b1;b2;b3;"), 5);
+    }
+
+    private static void tenLessItsNumber() {
+        due.sentence("-10 less the number of its FAULT");
+        OutOfPlace x = Due.told(Due.row(23, 2));
+        due.is("1", Due.tell(x, "b"), -11);
+        due.is("2", Due.tell(x, "bcd"), -12);
+        due.is("3", Due.tell(x, "b1 y3000"), -13);
+        due.is("4", Due.tell(x, "b1;b"), -14);
+        due.is("5", Due.tell(x, "a1;"), -15);
     }
 
     private static void latestFault() {

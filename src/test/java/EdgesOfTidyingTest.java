@@ -52,7 +52,7 @@ public final class EdgesOfTidyingTest {
     }
 
     private static void noneOrOneStands() {
-        due.sentence("OUT OF PLACE, PAIRS, FIRST WRONG (NONE) of a ROW of none, of one");
+        due.sentence("FIRST WRONG (1; NONE)", "none or one stands");
         for (OutOfPlace x : new OutOfPlace[] {new OutOfPlace(), standing(), standing(5)}) {
             due.is("wrong", x.wrong(), 0);
             due.is("pairs", x.tidy(0), 0);
@@ -61,7 +61,7 @@ public final class EdgesOfTidyingTest {
     }
 
     private static void noneIsOut() {
-        due.sentence("OUT OF PLACE, PAIRS, FIRST WRONG (NONE) of a ROW in the right order");
+        due.sentence("FIRST WRONG (1; NONE)", "all in the right order");
         OutOfPlace x = Due.told(Due.row(24, 1));
         for (int b = 0; b < 24; b++) {
             Due.fill(x, b / 3, b);
@@ -124,7 +124,7 @@ public final class EdgesOfTidyingTest {
     }
 
     private static void overShelves() {
-        due.sentence("of THE ROW: SHELF by SHELF");
+        due.sentence("SHELF by SHELF, from left to right", "one SHELF behind another");
         OutOfPlace x = Due.told(Due.row(4, 2));
         Due.fill(x, 0, 1);
         Due.fill(x, 3, 2);
@@ -163,14 +163,14 @@ public final class EdgesOfTidyingTest {
     }
 
     private static void tidyRefused() {
-        due.sentence("PAIRS (what = 0), FIRST WRONG (1). OUTSIDE");
+        due.sentence("PAIRS (what = 0), FIRST WRONG (1; NONE). OUTSIDE.");
         for (int what : new int[] {-1, 2, LEAST, GREATEST}) {
             due.is("tidy " + what, standing(1, 0).tidy(what), OUTSIDE);
         }
     }
 
     private static void mendNone() {
-        due.sentence("MENDED: how many BOOKS (none)");
+        due.sentence("MENDED: how many BOOKS", "none");
         due.is("no books", new OutOfPlace().mend(), 0);
         due.is("none stands", standing().mend(), 0);
         OutOfPlace x = standing(0, 1, 4);
@@ -185,12 +185,12 @@ public final class EdgesOfTidyingTest {
         Due.fill(x, 0, 2, 0, 1);
         due.is("their own room serves", x.mend(), 1);
         due.shelvesAre(x, "0 1 2");
-        OutOfPlace y = Due.told("a1 w2;a2 w9;a3 w9;a4 w1;");
-        Due.widths(y, 11, 10);
-        Due.fill(y, 0, 2, 0);
-        Due.fill(y, 1, 3, 1);
-        due.is("both are out ahead of the first", y.mend(), 2);
-        due.shelvesAre(y, "0 1", "2 3");
+        OutOfPlace y = standing();
+        Due.fill(y, 0, 5);
+        Due.fill(y, 2, 1, 2);
+        Due.fill(y, 4, 3, 0);
+        due.is("a6 is out ahead of a1's being put", y.mend(), 2);
+        due.shelvesAre(y, "", "", "0 1 2", "", "3 5");
     }
 
     /** By numbers a wide BOOK pushes the last one away ahead of its next, or behind it. */
@@ -219,7 +219,7 @@ public final class EdgesOfTidyingTest {
     }
 
     private static void mendThatPushes() {
-        due.sentence("MENDED ... PUT (BOOKS are PUSHED)");
+        due.sentence("then PUT by READING 0", "BOOKS are PUSHED");
         OutOfPlace x = Due.told("a1 w3;a2;a3;a4;");
         x.width(0, 4);
         Due.fill(x, 0, 1, 2);
@@ -242,7 +242,7 @@ public final class EdgesOfTidyingTest {
     }
 
     private static void secondCannotBe() {
-        due.sentence("NOT, if one cannot be: what is refused changes nothing");
+        due.sentence("NOT, if one cannot be", "the second, when the first could");
         OutOfPlace x = Due.told("a1 w2;a2 w3;a3 w1;a4 w1;a5 w9;");
         Due.widths(x, 14, 2, 3);
         Due.fill(x, 0, 2, 3, 4);
@@ -274,7 +274,7 @@ public final class EdgesOfTidyingTest {
     }
 
     private static void standsRightAmongTheOthers() {
-        due.sentence("among the others that stand and are not OUT OF PLACE (all ahead of it in THE ROW are AHEAD of it, it of all behind)");
+        due.sentence("among the others that stand and are not OUT OF PLACE (all ahead of it in THE ROW are AHEAD of it by that READING, it of all behind)");
         OutOfPlace x = standing(0, 1, 5, 2, 4, 3);
         due.is("wrong", x.wrong(), (1 << 5) + (1 << 3));
         due.is("one in place behind one out of place", x.guess(2), 0);
@@ -302,7 +302,7 @@ public final class EdgesOfTidyingTest {
     }
 
     private static void guessAlone() {
-        due.sentence("among the others that stand (none)");
+        due.sentence("among the others that stand", "none");
         for (int b = 0; b < 6; b++) {
             due.is("book " + b + " alone", standing(b).guess(b), 0);
         }
@@ -314,7 +314,7 @@ public final class EdgesOfTidyingTest {
     }
 
     private static void guessRefused() {
-        due.sentence("GUESS: UNKNOWN, NOT: it does not stand");
+        due.sentence("GUESS; NONE. UNKNOWN, NOT: it does not stand.");
         OutOfPlace x = standing(0);
         for (int b : new int[] {-1, 6, 24, LEAST, GREATEST}) {
             due.is("book " + b, x.guess(b), UNKNOWN);

@@ -24,7 +24,9 @@ public final class LanguageTest {
         }
         due.is("at most twelve classes", Math.min(12, 1 + OutOfPlace.class.getDeclaredClasses().length),
                 1 + OutOfPlace.class.getDeclaredClasses().length);
-        words();
+        String source = Files.readString(Path.of("src/main/java/OutOfPlace.java"));
+        words(source);
+        sections(source);
         due.end();
     }
 
@@ -67,8 +69,22 @@ public final class LanguageTest {
         }
     }
 
-    private static void words() throws IOException {
-        String source = Files.readString(Path.of("src/main/java/OutOfPlace.java"));
+    /** What the interface says ahead of which calls. */
+    private static void sections(String source) {
+        String[] order = {"// ---- books", "feed", "books", "fault", "book", "mark", "ahead", "order", "count",
+            "// ---- shelves", "width", "shelf", "room", "set", "put", "take",
+            "// ---- out of place", "wrong", "tidy", "mend", "guess", "// ---- room, guides", "lay", "make", "guide",
+            "// ---- stock, search", "list", "stock", "habit", "likely", "search",
+            "// ---- draws, images", "seed", "shelve", "keep", "goBack"};
+        int at = 0;
+        for (String next : order) {
+            int found = source.indexOf(next.startsWith("/") ? next + "\n" : "public int " + next + "(", at);
+            due.is(next + " is in its place", found >= 0 ? 1 : 0, 1);
+            at = Math.max(at, found);
+        }
+    }
+
+    private static void words(String source) {
         due.is("signs above 126", source.chars().filter(sign -> sign > 126).count(), 0);
         String code = source.replaceAll("(?s)/\\*.*?\\*/", "").replaceAll("//[^\n]*", "");
         for (String word : RULED_OUT) {

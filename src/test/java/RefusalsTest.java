@@ -18,7 +18,7 @@ public final class RefusalsTest {
     private static final Due due = new Due("RefusalsTest");
 
     public static void main(String[] args) {
-        due.sentence("REFUSALS, of several the first in this order .. What is refused changes nothing");
+        due.sentence("REFUSALS, of several the first in this order", "What is refused changes nothing");
         feedRefuses();
         booksRefuse();
         marksRefuse();

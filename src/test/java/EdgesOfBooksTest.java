@@ -117,6 +117,8 @@ public final class EdgesOfBooksTest {
     private static void cutterByFigures() {
         due.sentence("cutter (none ahead; its LETTER, then figure by figure, one that is shorter ahead");
         due.aheadIs("a1", "a1.a0", "11111");
+        due.aheadIs("a1.a0", "a1", "00000");
+        due.aheadIs("a1.a0000 y1000", "a1 y2999", "00000");
         due.aheadIs("a1.5", "a1.5.a0000", "11111");
         due.aheadIs("a1.a9999", "a1.b0", "11111");
         due.aheadIs("a1.y9999", "a1.z0000", "11111");

@@ -237,9 +237,41 @@ final class Model {
         return last;
     }
 
-    // ---- out of place, by all subsets of THE ROW (so only for short rows)
+    // ---- out of place, by all subsets of THE ROW; of a long one by the best way to go on from each place
+
+    private static final int SHORT = 11;
 
     int wrong() {
+        return row().size() <= SHORT ? wrongBySubsets() : wrongByWaysOn();
+    }
+
+    /** For each place the text of 1 (stands) and 0 from it on: the most 1, of like ones the greatest text. */
+    private int wrongByWaysOn() {
+        List<Integer> row = row();
+        String[] ways = new String[row.size()];
+        String best = "";
+        for (int i = row.size() - 1; i >= 0; i--) {
+            ways[i] = "1" + "0".repeat(row.size() - 1 - i);
+            for (int k = i + 1; k < row.size(); k++) {
+                if (ahead(row.get(i), row.get(k), 0)) {
+                    ways[i] = better(ways[i], "1" + "0".repeat(k - i - 1) + ways[k]);
+                }
+            }
+            best = better("0" + best, ways[i]);
+        }
+        int set = 0;
+        for (int i = 0; i < row.size(); i++) {
+            set |= best.charAt(i) == '0' ? 1 << row.get(i) : 0;
+        }
+        return set;
+    }
+
+    private static String better(String one, String other) {
+        long more = one.chars().filter(sign -> sign == '1').count() - other.chars().filter(sign -> sign == '1').count();
+        return more > 0 || more == 0 && one.compareTo(other) > 0 ? one : other;
+    }
+
+    private int wrongBySubsets() {
         List<Integer> row = row();
         int n = row.size();
         long best = -1;

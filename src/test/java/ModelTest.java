@@ -5,6 +5,10 @@ public final class ModelTest {
     private static final int NONE = OutOfPlace.NONE;
     private static final int RUNS = 250;
     private static final int STEPS = 60;
+    /** So few that Model may try all subsets of THE ROW. */
+    private static final int SHORT = 11;
+    private static final int ALL = 24;
+    private static final int LONG_RUNS = 60;
     private static final Due due = new Due("ModelTest");
     private static final String[] SNIPS = {"a", "b", "q", "ab", "aa", "1", "9", "10", "0", "12345", ".", ".5", ".05", ".b1",
         ".b10", ".c9", " ", "  ", " y1990", " y0990", " y3000", " y19", " w3", " w0", " w9", ";", ";", ";", "A", "w", "y"};
@@ -16,7 +20,10 @@ public final class ModelTest {
             texts(run);
         }
         for (int run = 0; run < RUNS; run++) {
-            shelves(run);
+            shelves("run " + run, SHORT);
+        }
+        for (int run = 0; run < LONG_RUNS; run++) {
+            shelves("long run " + run, ALL);
         }
         due.end();
     }
@@ -101,20 +108,23 @@ public final class ModelTest {
         }
     }
 
-    private static void shelves(int run) {
+    private static void shelves(String run, int books) {
         OutOfPlace x = new OutOfPlace();
         Model m = new Model();
-        while (m.marks.size() < 11) {
+        while (m.marks.size() < books) {
             String text = goodText(1);
             due.is("run text", Due.tell(x, text), m.books(text));
         }
         boolean narrow = draw(3) != 0;
         for (int s = 0; s < 8 && narrow; s++) {
-            m.widths[s] = 1 + draw(14);
+            m.widths[s] = 1 + draw(books + 3);
             x.width(s, m.widths[s]);
         }
+        if (books == ALL) {
+            due.is(run + " shelve all", x.shelve((1 << ALL) - 1), m.shelve((1 << ALL) - 1));
+        }
         for (int step = 0; step < STEPS; step++) {
-            String name = "run " + run + " step " + step;
+            String name = run + " step " + step;
             change(name, x, m);
             allShelvesAlike(name, x, m);
             look(name, x, m);
@@ -149,7 +159,7 @@ public final class ModelTest {
             case 5:
             case 6:
                 int r = 1 + draw(14);
-                due.is(name + " fewest", x.make(s, r, false), m.fewest(s, r));
+                due.is(name + " fewest", x.make(s, r, false), m.marks.size() > SHORT ? m.make(s, r, false) : m.fewest(s, r));
                 due.is(name + " make", x.make(s, r, true), m.make(s, r, true));
                 break;
             default:
@@ -171,7 +181,7 @@ public final class ModelTest {
         int i = draw(2);
         switch (draw(7)) {
             case 0:
-                due.is(name + " shelve", x.shelve(set & draw(1 << 11)), m.shelve(set & lastDrawn(1 << 11)));
+                due.is(name + " shelve", x.shelve(set & draw(1 << SHORT)), m.shelve(set & lastDrawn(1 << SHORT)));
                 break;
             case 1:
                 due.is(name + " list", x.list(set), m.list);
